@@ -1,0 +1,125 @@
+/** Promise 13: passed. */
+public final class PassedTest {
+    public static void main(String[] args) {
+        remainders();
+        costs();
+        noParts();
+        sumOfAKind();
+        notAboveZero();
+        greatest();
+        noSuchKindWhatOrDay();
+        Check.finish();
+    }
+
+    /** The parts of the four receivers; then what they get, COST, KEPT and S. */
+    private static void split(long cents, int thousandths, int[] parts, long... due) {
+        DutyLedger ledger = Made.withAccounts(2, 3);
+        Made.posted(ledger, 70, 9, 0, 1, cents);
+        ledger.cost(2, thousandths);
+        for (int receiver = 0; receiver < 4; receiver++) {
+            ledger.part(2, receiver, parts[receiver]);
+        }
+        for (int what = 0; what <= 6; what++) {
+            Check.due("passed(2, " + what + ", 9) of " + cents, ledger.passed(2, what, 9), due[what]);
+            Check.due("passed(2, " + what + ", 8) of " + cents, ledger.passed(2, what, 8), 0);
+        }
+    }
+
+    private static int[] parts(int... parts) {
+        return parts;
+    }
+
+    private static void remainders() {
+        split(100, 0, parts(1, 1, 1, 1), 25, 25, 25, 25, 0, 0, 100);
+        split(101, 0, parts(1, 1, 1, 1), 26, 25, 25, 25, 0, 0, 101);
+        split(102, 0, parts(1, 1, 1, 1), 26, 26, 25, 25, 0, 0, 102);
+        split(103, 0, parts(1, 1, 1, 1), 26, 26, 26, 25, 0, 0, 103);
+        split(1, 0, parts(0, 0, 1, 1), 0, 0, 1, 0, 0, 0, 1);
+        split(1, 0, parts(1, 2, 3, 4), 0, 0, 0, 1, 0, 0, 1);
+        split(2, 0, parts(1, 2, 3, 4), 0, 0, 1, 1, 0, 0, 2);
+        split(7, 0, parts(1, 2, 3, 4), 1, 1, 2, 3, 0, 0, 7);
+        split(11, 0, parts(1, 2, 2, 2), 2, 3, 3, 3, 0, 0, 11);
+        split(10, 0, parts(7, 7, 1, 0), 5, 5, 0, 0, 0, 0, 10);
+        split(10, 0, parts(1, 7, 7, 0), 1, 5, 4, 0, 0, 0, 10);
+        split(10, 0, parts(0, 0, 0, 3), 0, 0, 0, 10, 0, 0, 10);
+        split(2, 0, parts(1000, 1, 1000, 1000), 1, 0, 1, 0, 0, 0, 2);
+    }
+
+    private static void costs() {
+        split(1001, 250, parts(1, 1, 0, 2), 188, 188, 0, 375, 250, 250, 1001);
+        split(999, 1, parts(1, 0, 0, 0), 999, 0, 0, 0, 0, 0, 999);
+        split(1000, 1, parts(1, 0, 0, 0), 999, 0, 0, 0, 1, 1, 1000);
+        split(1234, 1000, parts(1, 2, 3, 4), 0, 0, 0, 0, 1234, 1234, 1234);
+        split(50, 30, parts(0, 1, 1, 0), 0, 25, 24, 0, 1, 1, 50);
+    }
+
+    private static void noParts() {
+        split(1001, 250, parts(0, 0, 0, 0), 0, 0, 0, 0, 250, 1001, 1001);
+        split(3, 0, parts(0, 0, 0, 0), 0, 0, 0, 0, 0, 3, 3);
+    }
+
+    private static void sumOfAKind() {
+        DutyLedger ledger = Made.withAccounts(1, 0, 1, 1);
+        Made.posted(ledger, 100000, 5, 0, 1, 600);
+        Made.posted(ledger, 0, 6, 2, 1, 50);
+        Made.posted(ledger, 0, 7, 1, 3, 300);
+        Made.posted(ledger, 0, 8, 0, 3, 1000);
+        int[][] due = {{4, 0}, {5, 600}, {6, 650}, {7, 350}, {8, 350}, {100000, 350}};
+        for (int[] row : due) {
+            Check.due("passed(1, 6, " + row[0] + ")", ledger.passed(1, 6, row[0]), row[1]);
+        }
+        Check.due("a kind without accounts", ledger.passed(5, 6, 8), 0);
+    }
+
+    private static void notAboveZero() {
+        DutyLedger ledger = Made.withAccounts(0, 1);
+        ledger.part(1, 0, 10);
+        ledger.part(1, 1, 10);
+        ledger.cost(1, 500);
+        Made.posted(ledger, 0, 0, 0, 1, 601);
+        for (int what = 0; what <= 6; what++) {
+            Check.due("passed(1, " + what + ", 0)", ledger.passed(1, what, 0), 0);
+        }
+        Made.posted(ledger, 0, 1, 1, 0, 601);
+        for (int what = 0; what <= 6; what++) {
+            Check.due("passed(1, " + what + ", 1)", ledger.passed(1, what, 1), 0);
+        }
+        Made.posted(ledger, 0, 2, 1, 0, 3);
+        int[] due = {1, 1, 0, 0, 1, 1, 3};
+        for (int what = 0; what <= 6; what++) {
+            Check.due("passed(1, " + what + ", 2)", ledger.passed(1, what, 2), due[what]);
+        }
+    }
+
+    /** A full ledger, half of its rows with the most cents for one kind: more than it can have there is none. */
+    private static void greatest() {
+        DutyLedger ledger = Made.withAccounts(0, 1);
+        for (int i = 0; i < 20; i++) {
+            int batch = ledger.batch(0, 0);
+            for (int row = 0; row < 20; row++) {
+                ledger.row(batch, row % 2, row % 2 == 0 ? 1000000000 : -1000000000);
+            }
+            Check.due("post", ledger.post(batch), 1);
+        }
+        for (int receiver = 0; receiver < 4; receiver++) {
+            ledger.part(0, receiver, receiver == 3 ? 1000 : 999);
+        }
+        ledger.cost(0, 999);
+        long[] due = {49987491, 49987491, 49987490, 50037528, 199800000000L, 199800000000L, 200000000000L};
+        for (int what = 0; what <= 6; what++) {
+            Check.due("passed(0, " + what + ", 0)", ledger.passed(0, what, 0), due[what]);
+        }
+    }
+
+    private static void noSuchKindWhatOrDay() {
+        DutyLedger ledger = Made.withAccounts(0, 1);
+        for (int number : new int[] {-1, 100001, Integer.MIN_VALUE, Integer.MAX_VALUE}) {
+            Check.thrown("passed(" + number + ", 0, 0)", Check.ARGUMENT, () -> ledger.passed(number, 0, 0));
+            Check.thrown("passed(0, " + number + ", 0)", Check.ARGUMENT, () -> ledger.passed(0, number, 0));
+            Check.thrown("passed(0, 0, " + number + ")", Check.ARGUMENT, () -> ledger.passed(0, 0, number));
+        }
+        Check.thrown("passed(6, 0, 0)", Check.ARGUMENT, () -> ledger.passed(6, 0, 0));
+        Check.thrown("passed(0, 7, 0)", Check.ARGUMENT, () -> ledger.passed(0, 7, 0));
+        Check.due("passed(5, 6, 100000)", ledger.passed(5, 6, 100000), 0);
+    }
+}
