@@ -333,7 +333,8 @@ public final class DutyLedger {
 
     private void makeVoid(Batch batch, int found) {
         wrong = found;
-        // Named before the rows go: they tell the account.
+        // Named before the rows go, since they tell the account. Only the rows go: the document
+        // has no other answer for the days of a VOID batch, nor for whether it was told to fail.
         named = found == SUM_NOT_ZERO ? accountFarthestFromZero(batch) : NONE;
         batch.size = 0;
         batch.state = VOID;

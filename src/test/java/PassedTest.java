@@ -5,6 +5,7 @@ public final class PassedTest {
         costs();
         noParts();
         sumOfAKind();
+        everyKind();
         notAboveZero();
         greatest();
         noSuchKindWhatOrDay();
@@ -69,6 +70,29 @@ public final class PassedTest {
             Check.due("passed(1, 6, " + row[0] + ")", ledger.passed(1, 6, row[0]), row[1]);
         }
         Check.due("a kind without accounts", ledger.passed(5, 6, 8), 0);
+    }
+
+    /** All accounts there can be, and parts and costs of all kinds, which must not get mixed up. */
+    private static void everyKind() {
+        for (int kind = 0; kind < 6; kind++) {
+            DutyLedger ledger = Made.withAccounts(5, 4, 3, 2, 1, 0, 0, 1, 2, 3, 4, 5);
+            for (int told = 0; told < 6; told++) {
+                for (int receiver = 0; receiver < 4; receiver++) {
+                    ledger.part(told, receiver, told + receiver);
+                }
+                ledger.cost(told, 10 * told);
+            }
+            Made.posted(ledger, 0, 0, 6 + kind, kind, 1000);
+            Made.posted(ledger, 0, 0, 5 - kind, kind, 1000);
+            long rest = 2000 - 20 * kind;
+            Check.due("S of kind " + kind, ledger.passed(kind, 6, 0), 2000);
+            Check.due("COST of kind " + kind, ledger.passed(kind, 4, 0), 20 * kind);
+            Check.due("KEPT of kind " + kind, ledger.passed(kind, 5, 0), 20 * kind);
+            for (int receiver = 0; receiver < 4; receiver++) {
+                long off = ledger.passed(kind, receiver, 0) - rest * (kind + receiver) / (4 * kind + 6);
+                Check.yes("a share of kind " + kind + " is whole, or one cent more", off == 0 || off == 1);
+            }
+        }
     }
 
     private static void notAboveZero() {

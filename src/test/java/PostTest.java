@@ -109,6 +109,8 @@ public final class PostTest {
         isNamed(2, 7, 9, 6, 1, 1, 1, 6);
         isNamed(3, 1000000000, 1, 1, 1000000000, 1000000000, 1, 1, 1000000000, 1000000000, 1, 1, 1000000000,
                 -1000000000, 1, 1, 1000000000);
+        // As many rows as a batch takes.
+        isNamed(2, 1, 1, 1, 1, 1, 1, 1, 1, 1, 1, 1, 1, 1, 1, 1, 1, 1, 1, 2, 1);
     }
 
     private static void namedIsForgotten() {

@@ -2,6 +2,7 @@
 public final class ReconcileTest {
     public static void main(String[] args) {
         sums();
+        firstDay();
         noSuchAccountsOrDays();
         Check.finish();
     }
@@ -20,6 +21,13 @@ public final class ReconcileTest {
             Check.due("reconcile(" + row[0] + ", " + row[1] + ", " + row[2] + ", " + row[3] + ")",
                     ledger.reconcile(row[0], row[1], row[2], row[3]), row[4]);
         }
+    }
+
+    private static void firstDay() {
+        DutyLedger ledger = Made.withAccounts(0, 0, 1);
+        Made.posted(ledger, 0, 0, 0, 1, 500);
+        Check.due("reconcile(0, 2, 0, 0)", ledger.reconcile(0, 2, 0, 0), 500);
+        Check.due("reconcile(2, 1, 0, 0)", ledger.reconcile(2, 1, 0, 0), -500);
     }
 
     private static void noSuchAccountsOrDays() {
