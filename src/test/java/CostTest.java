@@ -3,6 +3,7 @@ public final class CostTest {
     public static void main(String[] args) {
         eachOfItsOwn();
         toldAnew();
+        noSuchKind();
         cantBe();
         Check.finish();
     }
@@ -19,6 +20,7 @@ public final class CostTest {
         Check.yes("cost(0, 1)", ledger.cost(0, 1));
     }
 
+    /** "thousandths (0 .. 1000)": the least and the most, and again the least. */
     private static void toldAnew() {
         DutyLedger ledger = Made.withAccounts(0, 1);
         Made.posted(ledger, 0, 0, 0, 1, 999);
@@ -29,15 +31,25 @@ public final class CostTest {
         }
     }
 
+    /** "false if there is no such kind": 0 to 5 are such, also those without accounts. */
+    private static void noSuchKind() {
+        DutyLedger ledger = new DutyLedger();
+        for (int kind : new int[] {-1, 6, Integer.MIN_VALUE, Integer.MAX_VALUE}) {
+            Check.no("cost(" + kind + ", 1)", ledger.cost(kind, 1));
+        }
+        for (int kind = 0; kind <= 5; kind++) {
+            Check.yes("cost(" + kind + ", 1000)", ledger.cost(kind, 1000));
+        }
+    }
+
+    /** "or it can't be": then what was told before holds. */
     private static void cantBe() {
         DutyLedger ledger = Made.withAccounts(0, 1);
         Made.posted(ledger, 0, 0, 0, 1, 1000);
         ledger.cost(0, 5);
-        for (int number : new int[] {-1, 1001, Integer.MIN_VALUE, Integer.MAX_VALUE}) {
-            Check.no("cost(" + number + ", 1)", ledger.cost(number, 1));
-            Check.no("cost(0, " + number + ")", ledger.cost(0, number));
+        for (int thousandths : new int[] {-1, 1001, Integer.MIN_VALUE, Integer.MAX_VALUE}) {
+            Check.no("cost(0, " + thousandths + ")", ledger.cost(0, thousandths));
         }
-        Check.no("cost(6, 1)", ledger.cost(6, 1));
         Check.due("passed(0, 4, 0)", ledger.passed(0, 4, 0), 5);
     }
 }

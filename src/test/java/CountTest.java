@@ -2,7 +2,7 @@
 public final class CountTest {
     public static void main(String[] args) {
         everyWhat();
-        noneSuch();
+        noSuchWhat();
         Check.finish();
     }
 
@@ -39,10 +39,14 @@ public final class CountTest {
         counts(ledger, 3, 4, 4, 40, 70, 4, -1, 0, 1);
     }
 
-    private static void noneSuch() {
-        DutyLedger ledger = Made.withAccounts(0, 1);
+    /** "NONE for another what", in a ledger where no count is NONE. */
+    private static void noSuchWhat() {
+        DutyLedger ledger = Rich.make();
         for (int what : new int[] {-1, 9, Integer.MIN_VALUE, Integer.MAX_VALUE}) {
             Check.due("count(" + what + ")", ledger.count(what), -1);
         }
+        counts(ledger, 12, Rich.BATCHES, Rich.ROWS, Rich.CLOSED, Rich.LATEST, 2, 4, 0, 1);
+        Check.due("count(-1) of a new object", new DutyLedger().count(-1), -1);
+        Check.due("count(9) of a new object", new DutyLedger().count(9), -1);
     }
 }

@@ -2,7 +2,9 @@
 public final class LookTest {
     public static void main(String[] args) {
         everyState();
-        noneSuch();
+        noBatchYet();
+        noSuchBatch();
+        noSuchWhat();
         Check.finish();
     }
 
@@ -32,17 +34,39 @@ public final class LookTest {
         }
     }
 
-    private static void noneSuch() {
+    private static void noBatchYet() {
         DutyLedger ledger = new DutyLedger();
-        ledger.batch(0, 0);
-        for (int number : new int[] {-1, 100, Integer.MIN_VALUE, Integer.MAX_VALUE}) {
-            Check.thrown("look(" + number + ", 0)", Check.INDEX, () -> ledger.look(number, 0));
-            Check.thrown("look(0, " + number + ")", Check.INDEX, () -> ledger.look(0, number));
+        for (int what = 0; what <= 6; what++) {
+            int of = what;
+            Check.thrown("look(0, " + what + ")", Check.INDEX, () -> ledger.look(0, of));
         }
-        Check.thrown("look(1, 0)", Check.INDEX, () -> ledger.look(1, 0));
-        Check.thrown("look(0, 7)", Check.INDEX, () -> ledger.look(0, 7));
-        Made.fillBatches(ledger, 100);
-        Check.due("look(99, 0)", ledger.look(99, 0), 0);
+    }
+
+    /** "IndexOutOfBoundsException if there is no such batch": the last one and the first that isn't. */
+    private static void noSuchBatch() {
+        DutyLedger ledger = new DutyLedger();
+        Made.fillBatches(ledger, 99);
+        for (int batch : new int[] {-1, 99, 100, Integer.MIN_VALUE, Integer.MAX_VALUE}) {
+            for (int what = 0; what <= 6; what++) {
+                int of = what;
+                Check.thrown("look(" + batch + ", " + what + ")", Check.INDEX, () -> ledger.look(batch, of));
+            }
+        }
+        Check.due("look(98, 3)", ledger.look(98, 3), -1);
+        ledger.batch(8, 9);
+        Check.due("look(99, 6)", ledger.look(99, 6), 9);
         Check.thrown("look(100, 0)", Check.INDEX, () -> ledger.look(100, 0));
+    }
+
+    /** "or what": 0 to 6 are such. */
+    private static void noSuchWhat() {
+        DutyLedger ledger = new DutyLedger();
+        ledger.batch(8, 9);
+        for (int what : new int[] {-1, 7, Integer.MIN_VALUE, Integer.MAX_VALUE}) {
+            Check.thrown("look(0, " + what + ")", Check.INDEX, () -> ledger.look(0, what));
+            Check.thrown("look(1, " + what + ")", Check.INDEX, () -> ledger.look(1, what));
+        }
+        Check.due("look(0, 0)", ledger.look(0, 0), 0);
+        Check.due("look(0, 6)", ledger.look(0, 6), 9);
     }
 }

@@ -28,20 +28,40 @@ final class Made {
         return batch;
     }
 
-    /** Posts batches of 20 rows, the last one of what is missing, until the ledger has that many rows. */
+    /**
+     * Fills a ledger without rows, all known on day 0. Batches of 20 rows are reversed, since few calls must make
+     * many rows: an object has 512 calls. What is left over for the last batch must not be one row.
+     */
     static void fillRows(DutyLedger ledger, int rows) {
-        while (ledger.count(2) < rows) {
-            int batch = ledger.batch(0, 0);
-            int more = Math.min(20, rows - ledger.count(2));
-            for (int i = 0; i < more; i++) {
-                Check.yes("row", ledger.row(batch, i % 2, centsOf(i, more)));
-            }
-            Check.due("post", ledger.post(batch), 1);
+        int missing = rows;
+        while (missing >= 40) {
+            ledger.reverse(postedRows(ledger, 20), 0);
+            missing -= 40;
+        }
+        while (missing > 0) {
+            int more = Math.min(20, missing);
+            postedRows(ledger, more);
+            missing -= more;
         }
     }
 
+    static int postedRows(DutyLedger ledger, int rows) {
+        int batch = openRows(ledger, 0, rows);
+        Check.due("post", ledger.post(batch), 1);
+        return batch;
+    }
+
+    /** A batch of that many rows (2 or more) that sum to 0, on accounts 0 and 1 by turns, open yet. */
+    static int openRows(DutyLedger ledger, int known, int rows) {
+        int batch = ledger.batch(0, known);
+        for (int i = 0; i < rows; i++) {
+            Check.yes("row", ledger.row(batch, i % 2, centsOf(i, rows)));
+        }
+        return batch;
+    }
+
     /** Rows of 1 and -1 by turns; an odd number of them ends with 1, 1, -2. */
-    private static long centsOf(int i, int rows) {
+    static long centsOf(int i, int rows) {
         boolean odd = rows % 2 == 1;
         if (odd && i >= rows - 3) {
             return i == rows - 1 ? -2 : 1;
@@ -49,32 +69,25 @@ final class Made {
         return i % 2 == 0 ? 1 : -1;
     }
 
+    /** Begins batches without rows until there are that many. */
     static void fillBatches(DutyLedger ledger, int batches) {
-        while (ledger.count(1) < batches) {
-            ledger.batch(0, 0);
+        int latest = ledger.count(1) - 1;
+        while (latest < batches - 1) {
+            latest = ledger.batch(0, 0);
         }
     }
 
-    /** All that can be seen of a ledger from outside. */
-    static List<Long> seen(DutyLedger ledger) {
+    /** A batch that is VOID for want of rows. */
+    static int emptyVoid(DutyLedger ledger) {
+        int batch = ledger.batch(0, 0);
+        Check.thrown("post of no rows", Check.STATE, () -> ledger.post(batch));
+        return batch;
+    }
+
+    static List<Long> counts(DutyLedger ledger) {
         List<Long> all = new ArrayList<>();
         for (int what = 0; what <= 8; what++) {
             all.add((long) ledger.count(what));
-        }
-        for (int batch = 0; batch < ledger.count(1); batch++) {
-            for (int what = 0; what <= 6; what++) {
-                all.add((long) ledger.look(batch, what));
-            }
-        }
-        for (int row = 0; row < ledger.count(2); row++) {
-            for (int what = 0; what <= 4; what++) {
-                all.add(ledger.read(row, what));
-            }
-        }
-        for (int kind = 0; kind <= 5; kind++) {
-            for (int what = 0; what <= 6; what++) {
-                all.add(ledger.passed(kind, what, 100000));
-            }
         }
         return all;
     }

@@ -4,10 +4,7 @@ import java.util.Random;
 import java.util.TreeMap;
 import java.util.function.LongSupplier;
 
-/**
- * Runs of 512 calls each on the program and on the model, with likely and with wild arguments: both answer
- * alike, and what throws changes nothing, but posting a batch.
- */
+/** Runs of 512 calls each on the program and on the model, with likely and with wild arguments: both answer alike. */
 public final class ModelTest {
     private static final int RUNS = 1500;
     private static final int CALLS = 512;
@@ -33,7 +30,7 @@ public final class ModelTest {
         TreeMap<String, Integer> answers = new TreeMap<>();
         String fault = null;
         for (int seed = 0; seed < RUNS && fault == null; seed++) {
-            fault = new ModelTest(seed, answers).run(seed % 4 == 1, seed % 50 < 2);
+            fault = new ModelTest(seed, answers).run(seed % 4 == 1);
         }
         if (fault != null) {
             Check.tell(fault);
@@ -46,17 +43,13 @@ public final class ModelTest {
     }
 
     /** Null if all answers are alike. */
-    private String run(boolean nearlyFull, boolean lookingAround) {
+    private String run(boolean nearlyFull) {
         if (nearlyFull) {
             nearlyFill();
         }
-        while (told.size() < CALLS && fault == null) {
-            List<Long> before = lookingAround ? Made.seen(ledger) : null;
-            String got = call();
-            boolean threw = got.endsWith("Exception") && !got.startsWith("post");
-            if (threw && lookingAround && !before.equals(Made.seen(ledger))) {
-                return told + " threw and changed something";
-            }
+        // One less than there are, since the last of these may make two calls.
+        while (told.size() < CALLS - 1 && fault == null) {
+            call();
         }
         return fault;
     }

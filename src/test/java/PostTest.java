@@ -1,23 +1,29 @@
-/** Promise 6: post, with FAIL, HELD, VOID, WHAT WAS WRONG and NAMED. */
+/** Promise 6: post, and what a batch needs to be posted. VoidTest has what is told of one that can't be. */
 public final class PostTest {
     public static void main(String[] args) {
-        posted();
-        noSuchOpenBatch();
-        noRows();
-        sumNotZero();
-        namedAccount();
-        namedIsForgotten();
-        dayClosed();
-        aheadOfPosted();
-        noRoom();
-        theLeastIsTold();
-        failed();
-        voidBeforeFailed();
-        failedInAFullLedger();
+        oneBehindTheOther();
+        noBatchYet();
+        noSuchBatch();
+        openOnesAlone();
+        mustHaveRows();
+        mustSumToZero();
+        sumsBeyondAnInt();
+        noneClosedAtFirst();
+        behindTheClosedDay();
+        behindTheFirstDay();
+        behindTheLastDay();
+        nonePostedAtFirst();
+        notAheadOfTheLatest();
+        aReversalIsTheLatestToo();
+        whatWasNotPostedIsNotTheLatest();
+        roomForTheLastRows();
+        roomForAWholeBatch();
+        noRoomAtAll();
         Check.finish();
     }
 
-    private static void posted() {
+    /** "Then its rows are in the ledger, one behind the other", in the order of posting. */
+    private static void oneBehindTheOther() {
         DutyLedger ledger = Made.withAccounts(0, 1, 2);
         int late = Made.open(ledger, 4, 9, 2, 1, 30);
         int first = ledger.batch(7, 9);
@@ -35,215 +41,208 @@ public final class PostTest {
                 Check.due("read(" + i + ", " + what + ")", ledger.read(i, what), due[i][what]);
             }
         }
-        Check.due("count(4)", ledger.count(4), 9);
-        Check.due("count(5)", ledger.count(5), 0);
-        Check.due("count(7)", ledger.count(7), 0);
+        int[] counts = {3, 2, 5, -1, 9, 0, -1, 0, 0};
+        for (int what = 0; what < counts.length; what++) {
+            Check.due("count(" + what + ")", ledger.count(what), counts[what]);
+        }
     }
 
-    private static void noSuchOpenBatch() {
+    private static void noBatchYet() {
+        DutyLedger ledger = Made.withAccounts(0, 1);
+        Check.thrown("post(0)", Check.ARGUMENT, () -> ledger.post(0));
+        Check.due("what was wrong", ledger.count(5), 0);
+    }
+
+    /** "IllegalArgumentException if there is no such batch": the last one there is and the first there isn't. */
+    private static void noSuchBatch() {
+        DutyLedger ledger = Made.withAccounts(0, 1);
+        Made.fillBatches(ledger, 98);
+        int last = Made.open(ledger, 0, 0, 0, 1, 5);
+        for (int batch : new int[] {-1, 99, 100, Integer.MIN_VALUE, Integer.MAX_VALUE}) {
+            Check.thrown("post(" + batch + ")", Check.ARGUMENT, () -> ledger.post(batch));
+        }
+        Check.due("post(98)", ledger.post(last), 1);
+        Check.due("post(99)", ledger.post(Made.open(ledger, 0, 0, 0, 1, 5)), 1);
+        Check.thrown("post(100)", Check.ARGUMENT, () -> ledger.post(100));
+        Check.due("what was wrong", ledger.count(5), 0);
+    }
+
+    /** "that is OPEN": not a posted, a VOID one, or a reversal. */
+    private static void openOnesAlone() {
         DutyLedger ledger = Made.withAccounts(0, 1);
         int posted = Made.posted(ledger, 0, 0, 0, 1, 5);
         int reversal = ledger.reverse(posted, 0);
-        int empty = ledger.batch(0, 0);
-        Check.thrown("post of no rows", Check.STATE, () -> ledger.post(empty));
-        for (int batch : new int[] {posted, reversal, empty, -1, 3, 100, Integer.MIN_VALUE, Integer.MAX_VALUE}) {
+        int empty = Made.emptyVoid(ledger);
+        for (int batch : new int[] {posted, reversal, empty}) {
             Check.thrown("post(" + batch + ")", Check.ARGUMENT, () -> ledger.post(batch));
         }
         Check.due("count(2)", ledger.count(2), 4);
     }
 
-    private static void isVoid(DutyLedger ledger, int batch, int wrong, int named) {
-        int rows = ledger.count(2);
-        int latest = ledger.count(4);
+    private static void isVoid(DutyLedger ledger, int batch, int wrong) {
         Check.thrown("post(" + batch + ")", Check.STATE, () -> ledger.post(batch));
+        Check.due("look(" + batch + ", 0)", ledger.look(batch, 0), 2);
         Check.due("what was wrong", ledger.count(5), wrong);
-        Check.due("the named account", ledger.count(6), named);
-        Check.due("state", ledger.look(batch, 0), 2);
-        Check.due("rows of a void batch", ledger.look(batch, 1), 0);
-        Check.due("rows of the ledger", ledger.count(2), rows);
-        Check.due("latest known day", ledger.count(4), latest);
-        Check.due("failures", ledger.count(8), 0);
     }
 
-    private static void noRows() {
-        DutyLedger ledger = Made.withAccounts(0, 1);
-        isVoid(ledger, ledger.batch(3, 4), 1, -1);
-        Check.due("valid day of a void batch", ledger.look(0, 5), 3);
-        Check.due("known day of a void batch", ledger.look(0, 6), 4);
+    private static void isPosted(DutyLedger ledger, int batch) {
+        Check.due("post(" + batch + ")", ledger.post(batch), 1);
+        Check.due("look(" + batch + ", 0)", ledger.look(batch, 0), 1);
     }
 
-    private static void sumNotZero() {
+    /** "it must have rows": none is too few; one can't sum to 0; two do. */
+    private static void mustHaveRows() {
         DutyLedger ledger = Made.withAccounts(0, 1);
-        int batch = Made.open(ledger, 0, 0, 0, 1, 1000000000);
-        ledger.row(batch, 1, -1);
-        isVoid(ledger, batch, 2, 1);
-        // Sums beyond an int that would wrap around to 0.
-        int wide = ledger.batch(0, 0);
+        isVoid(ledger, ledger.batch(0, 0), 1);
+        int one = ledger.batch(0, 0);
+        ledger.row(one, 0, 1);
+        isVoid(ledger, one, 2);
+        isPosted(ledger, Made.open(ledger, 0, 0, 0, 1, 1));
+        isPosted(ledger, Made.openRows(ledger, 0, 20));
+    }
+
+    /** "its cents must sum to 0": not 1, nor -1. */
+    private static void mustSumToZero() {
+        for (int off = -1; off <= 1; off++) {
+            DutyLedger ledger = Made.withAccounts(0, 1);
+            int batch = Made.open(ledger, 0, 0, 0, 1, 1000000000);
+            ledger.row(batch, 1, 10 + off);
+            ledger.row(batch, 1, -10);
+            if (off == 0) {
+                isPosted(ledger, batch);
+            } else {
+                isVoid(ledger, batch, 2);
+            }
+        }
+        DutyLedger alone = Made.withAccounts(0);
+        isPosted(alone, Made.open(alone, 0, 0, 0, 0, 5));
+    }
+
+    /** Sums that are 0 only if they wrap around, and the widest ones that are 0. */
+    private static void sumsBeyondAnInt() {
+        DutyLedger ledger = Made.withAccounts(0, 1);
+        int wraps = ledger.batch(0, 0);
         for (int i = 0; i < 4; i++) {
-            ledger.row(wide, 0, 1000000000);
+            ledger.row(wraps, 0, 1000000000);
         }
-        ledger.row(wide, 0, 294967296);
-        isVoid(ledger, wide, 2, 0);
-    }
-
-    private static void isNamed(int named, long... cents) {
-        DutyLedger ledger = Made.withAccounts(0, 1, 2, 3);
-        int batch = ledger.batch(0, 0);
-        for (int i = 0; i < cents.length; i++) {
-            ledger.row(batch, i % 4, cents[i]);
+        ledger.row(wraps, 0, 294967296);
+        isVoid(ledger, wraps, 2);
+        int wide = ledger.batch(0, 0);
+        for (int i = 0; i < 20; i++) {
+            ledger.row(wide, i < 10 ? 0 : 1, i < 10 ? 1000000000 : -1000000000);
         }
-        isVoid(ledger, batch, 2, named);
+        isPosted(ledger, wide);
+        Check.due("balance", ledger.balance(0, 0, 0), 10000000000L);
     }
 
-    private static void namedAccount() {
-        isNamed(0, 1);
-        isNamed(0, -1);
-        isNamed(1, 1, 2, 1, 1);
-        isNamed(2, 5, 6, -7, 6);
-        isNamed(3, 5, 6, -7, 8);
-        isNamed(1, 5, -8, 8, 5);
-        isNamed(1, 5, 8, -8, 5);
-        isNamed(0, 9, 9, 9, 9);
-        // The sum of an account's rows, not its greatest row, nor all of its rows without signs.
-        isNamed(1, 100, 20, 3, 3, -99);
-        isNamed(2, 7, 9, 6, 1, 1, 1, 6);
-        isNamed(3, 1000000000, 1, 1, 1000000000, 1000000000, 1, 1, 1000000000, 1000000000, 1, 1, 1000000000,
-                -1000000000, 1, 1, 1000000000);
-        // As many rows as a batch takes.
-        isNamed(2, 1, 1, 1, 1, 1, 1, 1, 1, 1, 1, 1, 1, 1, 1, 1, 1, 1, 1, 2, 1);
-    }
-
-    private static void namedIsForgotten() {
+    /** "(at first none is: NONE)": then day 0 is behind it. */
+    private static void noneClosedAtFirst() {
         DutyLedger ledger = Made.withAccounts(0, 1);
-        int batch = ledger.batch(0, 0);
-        ledger.row(batch, 1, 3);
-        isVoid(ledger, batch, 2, 1);
-        Made.posted(ledger, 0, 0, 0, 1, 5);
-        Check.due("what was wrong stays behind a batch that is posted", ledger.count(5), 2);
-        Check.due("the named account too", ledger.count(6), 1);
-        isVoid(ledger, ledger.batch(0, 0), 1, -1);
+        Check.due("count(3)", ledger.count(3), -1);
+        isPosted(ledger, Made.open(ledger, 0, 0, 0, 1, 5));
     }
 
-    private static void dayClosed() {
+    /** "its KNOWN day must be behind the CLOSED one": its VALID day need not. */
+    private static void behindTheClosedDay() {
         DutyLedger ledger = Made.withAccounts(0, 1);
         ledger.close(10);
-        isVoid(ledger, Made.open(ledger, 50, 10, 0, 1, 5), 3, -1);
-        isVoid(ledger, Made.open(ledger, 50, 9, 0, 1, 5), 3, -1);
-        int batch = Made.open(ledger, 3, 11, 0, 1, 5);
-        Check.due("behind the closed day, valid on one ahead", ledger.post(batch), 1);
-        DutyLedger other = Made.withAccounts(0, 1);
-        Check.due("day 0 while none is closed", other.post(Made.open(other, 0, 0, 0, 1, 5)), 1);
+        isVoid(ledger, Made.open(ledger, 50, 9, 0, 1, 5), 3);
+        isVoid(ledger, Made.open(ledger, 50, 10, 0, 1, 5), 3);
+        isPosted(ledger, Made.open(ledger, 3, 11, 0, 1, 5));
+        int open = Made.open(ledger, 50, 11, 0, 1, 5);
+        ledger.close(11);
+        isVoid(ledger, open, 3);
     }
 
-    private static void aheadOfPosted() {
+    private static void behindTheFirstDay() {
+        DutyLedger ledger = Made.withAccounts(0, 1);
+        ledger.close(0);
+        isVoid(ledger, Made.open(ledger, 0, 0, 0, 1, 5), 3);
+        isPosted(ledger, Made.open(ledger, 0, 1, 0, 1, 5));
+    }
+
+    private static void behindTheLastDay() {
+        DutyLedger ledger = Made.withAccounts(0, 1);
+        ledger.close(99999);
+        isPosted(ledger, Made.open(ledger, 0, 100000, 0, 1, 5));
+        ledger.close(100000);
+        isVoid(ledger, Made.open(ledger, 0, 100000, 0, 1, 5), 3);
+    }
+
+    private static void nonePostedAtFirst() {
+        for (int day : new int[] {0, 1, 100000}) {
+            DutyLedger ledger = Made.withAccounts(0, 1);
+            Check.due("count(4)", ledger.count(4), -1);
+            isPosted(ledger, Made.open(ledger, 0, day, 0, 1, 5));
+            Check.due("count(4)", ledger.count(4), day);
+        }
+    }
+
+    /** "not ahead of that of the latest batch that was posted": the same day is none ahead. */
+    private static void notAheadOfTheLatest() {
+        DutyLedger ledger = Made.withAccounts(0, 1);
+        isPosted(ledger, Made.open(ledger, 90, 20, 0, 1, 5));
+        isVoid(ledger, Made.open(ledger, 95, 19, 0, 1, 5), 4);
+        isPosted(ledger, Made.open(ledger, 80, 20, 0, 1, 5));
+        isPosted(ledger, Made.open(ledger, 1, 21, 0, 1, 5));
+        isVoid(ledger, Made.open(ledger, 95, 20, 0, 1, 5), 4);
+        isVoid(ledger, Made.open(ledger, 95, 0, 0, 1, 5), 4);
+        isPosted(ledger, Made.open(ledger, 95, 21, 0, 1, 5));
+    }
+
+    private static void aReversalIsTheLatestToo() {
         DutyLedger ledger = Made.withAccounts(0, 1);
         Made.posted(ledger, 90, 20, 0, 1, 5);
-        Made.posted(ledger, 90, 20, 0, 1, 5);
-        isVoid(ledger, Made.open(ledger, 95, 19, 0, 1, 5), 4, -1);
-        Made.posted(ledger, 1, 21, 0, 1, 5);
-        isVoid(ledger, Made.open(ledger, 95, 20, 0, 1, 5), 4, -1);
         ledger.reverse(0, 30);
-        isVoid(ledger, Made.open(ledger, 95, 29, 0, 1, 5), 4, -1);
-        Made.posted(ledger, 1, 30, 0, 1, 5);
+        isVoid(ledger, Made.open(ledger, 95, 29, 0, 1, 5), 4);
+        isPosted(ledger, Made.open(ledger, 95, 30, 0, 1, 5));
     }
 
-    private static void noRoom() {
+    /** A batch that is VOID, failed, was begun or was refused as a reversal is none that was posted. */
+    private static void whatWasNotPostedIsNotTheLatest() {
+        DutyLedger ledger = Made.withAccounts(0, 1);
+        Made.posted(ledger, 0, 20, 0, 1, 5);
+        int failed = Made.open(ledger, 0, 60, 0, 1, 5);
+        ledger.fails(failed, true);
+        Check.thrown("post", Check.FAILED, () -> ledger.post(failed));
+        isVoid(ledger, ledger.batch(0, 70), 1);
+        ledger.batch(0, 80);
+        Check.thrown("reverse", Check.STATE, () -> ledger.reverse(0, 19));
+        Check.due("count(4)", ledger.count(4), 20);
+        isPosted(ledger, Made.open(ledger, 0, 20, 0, 1, 5));
+    }
+
+    /** "all of its rows must have room in the ledger (400 rows at most)": 397 and 3 have, 397 and 4 have not. */
+    private static void roomForTheLastRows() {
         DutyLedger ledger = Made.withAccounts(0, 1);
         Made.fillRows(ledger, 397);
-        int four = Made.open(ledger, 0, 0, 0, 1, 5);
-        ledger.row(four, 0, 5);
-        ledger.row(four, 1, -5);
-        isVoid(ledger, four, 5, -1);
-        int three = Made.open(ledger, 0, 0, 0, 1, 5);
-        ledger.row(three, 0, 5);
-        ledger.row(three, 1, -3);
-        isVoid(ledger, three, 2, 0);
-        int last = ledger.batch(0, 0);
-        ledger.row(last, 0, 5);
-        ledger.row(last, 1, -3);
-        ledger.row(last, 1, -2);
-        Check.due("the last three rows", ledger.post(last), 1);
+        isVoid(ledger, Made.openRows(ledger, 0, 4), 5);
+        Check.due("count(2)", ledger.count(2), 397);
+        isPosted(ledger, Made.openRows(ledger, 0, 3));
         Check.due("count(2)", ledger.count(2), 400);
-        isVoid(ledger, Made.open(ledger, 0, 0, 0, 1, 5), 5, -1);
         Check.due("read(399, 2)", ledger.read(399, 2), -2);
     }
 
-    private static void theLeastIsTold() {
+    /** The largest batch: 380 and 20 rows have room, 381 and 20 have not. */
+    private static void roomForAWholeBatch() {
         DutyLedger ledger = Made.withAccounts(0, 1);
-        Made.fillRows(ledger, 398);
-        Made.posted(ledger, 0, 20, 0, 1, 5);
-        int room = Made.open(ledger, 0, 20, 0, 1, 5);
-        int ahead = Made.open(ledger, 0, 19, 0, 1, 5);
-        int closed = Made.open(ledger, 0, 15, 0, 1, 5);
-        int uneven = Made.open(ledger, 0, 15, 0, 1, 5);
-        ledger.row(uneven, 1, 2);
-        int empty = ledger.batch(0, 15);
-        ledger.close(15);
-        isVoid(ledger, room, 5, -1);
-        isVoid(ledger, ahead, 4, -1);
-        isVoid(ledger, closed, 3, -1);
-        isVoid(ledger, uneven, 2, 0);
-        isVoid(ledger, empty, 1, -1);
+        Made.fillRows(ledger, 380);
+        isPosted(ledger, Made.openRows(ledger, 0, 20));
+        Check.due("count(2)", ledger.count(2), 400);
+        DutyLedger fuller = Made.withAccounts(0, 1);
+        Made.fillRows(fuller, 378);
+        Made.postedRows(fuller, 3);
+        isVoid(fuller, Made.openRows(fuller, 0, 20), 5);
+        Check.due("count(2)", fuller.count(2), 381);
+        isPosted(fuller, Made.openRows(fuller, 0, 19));
+        Check.due("count(2)", fuller.count(2), 400);
     }
 
-    private static void failed() {
+    private static void noRoomAtAll() {
         DutyLedger ledger = Made.withAccounts(0, 1);
-        Made.posted(ledger, 0, 3, 0, 1, 5);
-        int batch = ledger.batch(2, 8);
-        ledger.row(batch, 0, 7);
-        ledger.row(batch, 1, -3);
-        ledger.row(batch, 1, -4);
-        ledger.fails(batch, true);
-        Check.thrown("post", Check.FAILED, () -> ledger.post(batch));
-        int[] counts = {2, 2, 2, -1, 3, 0, -1, 0, 1};
-        for (int what = 0; what < counts.length; what++) {
-            Check.due("count(" + what + ") behind a failure", ledger.count(what), counts[what]);
-        }
-        int[] looks = {0, 3, -1, -1, 0, 2, 8};
-        for (int what = 0; what < looks.length; what++) {
-            Check.due("look(1, " + what + ") behind a failure", ledger.look(batch, what), looks[what]);
-        }
-        Check.thrown("read(2, 0)", Check.INDEX, () -> ledger.read(2, 0));
-        Check.due("balance", ledger.balance(0, 100000, 100000), 5);
-        Check.yes("row of a batch that failed", ledger.row(batch, 0, 1));
-        Check.yes("row of a batch that failed", ledger.row(batch, 1, -1));
-        Check.yes("fails", ledger.fails(batch, true));
-        Check.thrown("post", Check.FAILED, () -> ledger.post(batch));
-        Check.due("count(8)", ledger.count(8), 2);
-        Check.due("post of a batch told to fail no more", ledger.post(batch), 1);
-        Check.due("count(2)", ledger.count(2), 7);
-        Check.due("balance", ledger.balance(0, 100000, 100000), 13);
-        Check.due("read(2, 0)", ledger.read(2, 0), 1);
-        Check.due("read(6, 2)", ledger.read(6, 2), -1);
-        Check.due("count(8)", ledger.count(8), 2);
-        Check.due("count(7)", ledger.count(7), 0);
-    }
-
-    /** The exception that is told first is thrown: a batch that can't be posted does not come to fail. */
-    private static void voidBeforeFailed() {
-        DutyLedger ledger = Made.withAccounts(0, 1);
-        int empty = ledger.batch(0, 0);
-        ledger.fails(empty, true);
-        isVoid(ledger, empty, 1, -1);
-        ledger.close(4);
-        int closed = Made.open(ledger, 0, 4, 0, 1, 5);
-        ledger.fails(closed, true);
-        isVoid(ledger, closed, 3, -1);
-    }
-
-    private static void failedInAFullLedger() {
-        DutyLedger ledger = Made.withAccounts(0, 1);
-        Made.fillRows(ledger, 399);
-        int batch = Made.open(ledger, 0, 0, 0, 1, 5);
-        ledger.fails(batch, true);
-        isVoid(ledger, batch, 5, -1);
-        DutyLedger other = Made.withAccounts(0, 1);
-        Made.fillRows(other, 398);
-        int fits = Made.open(other, 0, 0, 0, 1, 5);
-        other.fails(fits, true);
-        Check.thrown("post", Check.FAILED, () -> other.post(fits));
-        Check.due("count(2)", other.count(2), 398);
-        Check.due("post", other.post(fits), 1);
-        Check.due("count(2)", other.count(2), 400);
+        Made.fillRows(ledger, 400);
+        isVoid(ledger, Made.open(ledger, 0, 0, 0, 1, 5), 5);
+        Check.due("count(2)", ledger.count(2), 400);
+        Check.due("balance", ledger.balance(0, 100000, 100000), 0);
     }
 }
