@@ -13,7 +13,8 @@ public final class PassedTest {
         aboveZero();
         notAboveZero();
         firstAndLastKnownDay();
-        greatest();
+        greatestCost();
+        greatestShares();
         noAccountsYet();
         noSuchKind();
         noSuchWhat();
@@ -174,23 +175,34 @@ public final class PassedTest {
     }
 
     /** A full ledger, half of its rows with the most cents for one kind: more than it can have there is none. */
-    private static void greatest() {
+    private static DutyLedger greatest() {
         DutyLedger ledger = Made.withAccounts(0, 1);
         for (int i = 0; i < 20; i++) {
             int batch = ledger.batch(0, 0);
             for (int row = 0; row < 20; row++) {
-                ledger.row(batch, row % 2, row % 2 == 0 ? 1000000000 : -1000000000);
+                ledger.row(batch, row % 2, row % 2 == 0 ? -1000000000 : 1000000000);
             }
             Check.due("post", ledger.post(batch), 1);
         }
+        return ledger;
+    }
+
+    private static void greatestCost() {
+        DutyLedger ledger = greatest();
         for (int receiver = 0; receiver < 4; receiver++) {
-            ledger.part(0, receiver, receiver == 3 ? 1000 : 999);
+            ledger.part(1, receiver, receiver == 3 ? 1000 : 999);
         }
-        ledger.cost(0, 999);
-        long[] due = {49987491, 49987491, 49987490, 50037528, 199800000000L, 199800000000L, 200000000000L};
-        for (int what = 0; what <= 6; what++) {
-            Check.due("passed(0, " + what + ", 0)", ledger.passed(0, what, 0), due[what]);
-        }
+        ledger.cost(1, 999);
+        all(ledger, 0, 49987491, 49987491, 49987490, 50037528, 199800000000L, 199800000000L, 200000000000L);
+    }
+
+    private static void greatestShares() {
+        DutyLedger ledger = greatest();
+        ledger.part(1, 0, 1000);
+        ledger.part(1, 1, 999);
+        ledger.part(1, 2, 1000);
+        ledger.part(1, 3, 1);
+        all(ledger, 0, 66666666667L, 66600000000L, 66666666667L, 66666666, 0, 0, 200000000000L);
     }
 
     private static void noAccountsYet() {
